@@ -36,8 +36,13 @@ public final class OthersSharePromises {
   }
 
   private static void type(OthersShare x, String text) {
-    for (int i = 0; i < text.length(); i++) {
-      x.feed(text.charAt(i), 1);
+    for (int i = 0; i < text.length(); i += 4) {
+      int n = Math.min(4, text.length() - i);
+      int bytes = 0;
+      for (int k = 0; k < n; k++) {
+        bytes = bytes << 8 | text.charAt(i + k);
+      }
+      x.feed(bytes, n);
     }
   }
 
@@ -88,6 +93,71 @@ public final class OthersSharePromises {
     for (int s = 0; s < 4; s++) {
       is("1 sheet " + s, y.write(s, 0, 1), MISSING);
     }
+  }
+
+  /** No call may throw, with as many parts as there can be and any numbers. */
+  private static void anyNumbers() {
+    int[] odd = {Integer.MIN_VALUE, -2, -1, 0, 1, 7, 8, 9, 40, 41, 9999, Integer.MAX_VALUE};
+    for (int a : odd) {
+      for (int b : odd) {
+        OthersShare x = with(PART, 0, SAILOR, 0, PET, 0, GHOST, 0, ADMIRAL, 0, YOUNGEST, 0, GHOST, 1, PART, 1);
+        for (int bits : new int[] {8, a}) {
+          x.sheet(0, bits, 40);
+          x.sheet(1, bits, b);
+          x.sheet(a, bits, b);
+        }
+        x.sheet(2, 16, 9);
+        calls(x, a, b);
+        x.days(1);
+        calls(x, b, a);
+        is("none comes or goes", x.count(0), 8);
+      }
+    }
+  }
+
+  private static void calls(OthersShare x, int a, int b) {
+    for (int what = -1; what < 11; what++) {
+      x.now(what);
+      x.of(a, what);
+      x.set(a, what, b);
+      x.count(what);
+      x.status(what);
+    }
+    x.weary(a);
+    x.free(a, b);
+    x.part(a, b);
+    x.turn(a, b);
+    x.as(a, b);
+    x.left(a);
+    x.days(a);
+    x.on(a, b, 0);
+    x.then(a, 0);
+    x.done(a);
+    x.all();
+    x.played(a);
+    x.later(a);
+    x.kind(a);
+    x.bears(a);
+    x.holiday();
+    x.last();
+    x.longest(a);
+    x.due(a);
+    x.feed(a, b);
+    x.feed(a, 4);
+    x.nursery();
+    x.write(a, b, a);
+    x.write(2, a, b);
+    x.copy(a, b, 0, 0, 0);
+    x.copy(2, a, 2, b, 1);
+    x.copy(2, a, 2, a, b);
+    x.lays(a);
+    x.book(a);
+    x.read(a, b);
+    x.read(2, a);
+    x.image();
+    x.undo();
+    x.tear();
+    x.wipe();
   }
 
   private static void promise2Weary() {
@@ -240,6 +310,11 @@ public final class OthersSharePromises {
     is("6 youngest waits, another not done and put off", x.of(4, 7), 1);
     is("6 put off", x.of(3, 4), 9);
     is("6 due", x.of(2, 3), 45);
+    OthersShare y = with(YOUNGEST, 9999);
+    is("6 youngest held at 0", y.of(0, 7), 0);
+    y.part(SAILOR, 9999);
+    is("6 sailor held at 0", y.of(1, 7), 0);
+    is("6 youngest waits, and calls still", y.of(0, 7), 1);
     x.days(7);
     is("6 calls of a day behind", x.of(0, 7), 7);
   }
@@ -371,6 +446,11 @@ public final class OthersSharePromises {
     z.days(1);
     is("11 played", z.of(0, 2), 4);
     is("11 gives by the weariness before", tiredPoints(), 4);
+    OthersShare w = new OthersShare();
+    w.free(0, 1);
+    w.weary(12);
+    w.days(1);
+    is("11 rest on a holiday held at 0", w.now(2), 0);
   }
 
   private static int tiredPoints() {
@@ -486,6 +566,67 @@ public final class OthersSharePromises {
     is("17 n more would be late", w.later(6), NONE);
   }
 
+  private static void promise17Horizon() {
+    // A long sailor, behind it a part, behind that the ghost; put off for a day, it lets the ghost go first.
+    OthersShare x = with(SAILOR, 0, PART, 0, GHOST, 0);
+    school(x);
+    x.set(0, 1, 99);
+    lengthen(x, 1, 2, 201);
+    is("17 the part is late ON 200 days, the ghost is not yet", x.then(200, 1), 2);
+    is("17 and the part isn't, put off", x.later(1), 0);
+    lengthen(x, 1, 2, 202);
+    is("17 the part is late just behind 200 days", x.then(200, 1), 1);
+    is("17 and behind 200 days it does not count", x.later(1), NONE);
+    OthersShare y = with(SAILOR, 0, PART, 0);
+    school(y);
+    y.set(0, 1, 99);
+    lengthen(y, 1, 1, 200);
+    is("17 late on the last of 200 days", y.then(200, 1), 2);
+    is("17 whatever is put off", y.later(1), NONE);
+  }
+
+  private static void school(OthersShare x) {
+    for (int place = 0; place < 7; place++) {
+      x.free(place, 0);
+    }
+  }
+
+  /** Makes a part so long that another one is done in just so many days. */
+  private static void lengthen(OthersShare x, int part, int other, int days) {
+    for (int length = 1; length <= 99 && x.done(other) != days; length++) {
+      x.set(part, 1, length);
+    }
+    is("lengthened", x.done(other), days);
+  }
+
+  /** Takes points from a part until another one is done in just so many days. */
+  private static void takePoints(OthersShare x, int part, int other, int days) {
+    for (int points = 198; points >= 0 && x.done(other) != days; points--) {
+      x.set(part, 2, points);
+    }
+    is("points taken", x.done(other), days);
+  }
+
+  private static void promise18Horizon() {
+    OthersShare x = with(GHOST, 9999);
+    blockWithSeven(x);
+    for (int part = 3; part < 8; part++) {
+      x.set(part, 2, 198);
+    }
+    takePoints(x, 3, 0, 400);
+    is("18 in 400", x.kind(0), GHOST);
+    x.set(3, 2, x.of(3, 2) - 1);
+    is("18 not in 401", x.kind(0), NONE);
+    for (int part = 2; part < 8; part++) {
+      x.set(part, 2, 198);
+    }
+    x.set(1, 2, 0);
+    takePoints(x, 2, 0, 200);
+    is("23 in 200", x.due(0), 60);
+    x.set(2, 2, x.of(2, 2) - 1);
+    is("23 not in 201", x.due(0), NONE);
+  }
+
   private static void promise18Kind() {
     OthersShare x = with(PART, 0);
     is("18 a ghost is done in a day", x.kind(0), GHOST);
@@ -517,9 +658,16 @@ public final class OthersSharePromises {
       x.part(SAILOR, 0);
       x.set(i + 1, 1, 99);
     }
-    for (int place = 0; place < 7; place++) {
-      x.free(place, 0);
-    }
+    school(x);
+  }
+
+  private static void promise19Zero() {
+    OthersShare x = with(ADMIRAL, 0);
+    school(x);
+    x.set(0, 1, 5);
+    // 3, 3, 3, 2, 2, 2 with 0, 10, .. 50; with 1 it falls silent at 51.
+    is("19 none but 0", x.bears(6), 0);
+    is("19 0, too, is too much", x.bears(5), NONE);
   }
 
   private static void promise19Bears() {
@@ -558,6 +706,26 @@ public final class OthersSharePromises {
     is("20 of none", new OthersShare().holiday(), NONE);
     OthersShare y = with(PART, 0);
     is("20 no sooner", y.holiday(), NONE);
+  }
+
+  private static void promise20Horizon() {
+    OthersShare x = with(PART, 446);
+    is("20 in 400 with any", x.holiday(), NONE);
+    x.set(0, 3, 447);
+    is("20 in 401 with any", x.holiday(), NONE);
+    OthersShare y = with(SAILOR, 454);
+    school(y);
+    is("20 in 401 as it is", y.all(), NONE);
+    is("20 in 400 with the last of its days", y.holiday(), 0);
+    y.set(0, 3, 455);
+    is("20 in 401 with one", y.holiday(), NONE);
+  }
+
+  private static void promise21Horizon() {
+    OthersShare x = with(PART, 446, PART, 9999);
+    is("21 in 400 is not as late as never", x.last(), 1);
+    x.set(0, 3, 447);
+    is("21 in 401 is", x.last(), 0);
   }
 
   private static void promise21Last() {
@@ -600,6 +768,9 @@ public final class OthersSharePromises {
     x.turn(0, GHOST);
     x.set(0, 2, 0);
     is("22 a ghost of any length", x.longest(0), 99);
+    OthersShare y = with(PART, 0);
+    y.weary(99);
+    is("22 the shortest", y.longest(0), 1);
     is("22 part", x.longest(1), BEYOND);
     is("22 part", x.longest(-1), BEYOND);
   }
@@ -619,6 +790,8 @@ public final class OthersSharePromises {
     OthersShare y = with(PART, 0);
     blockWithSeven(y);
     is("23 none", y.due(0), NONE);
+    OthersShare first = with(PART, 60, PART, 0);
+    is("23 on the day itself, to be ahead of the other", first.due(0), 0);
     OthersShare z = with(GHOST, 9);
     pass(z, 9960);
     is("23 up to 9999", z.due(0), 9999);
@@ -693,13 +866,15 @@ public final class OthersSharePromises {
         "pet 1 later", "pet 1 later 100", "pet 1 later 2 long 3", "pet 1 long 3 long 3", "pet 1 later 3 later 3",
         "pet 1 longer 3", "Pet 1", "pet 1 Long 3", "pet\t1", "pet 1,", "free", "free 7", "school 7", "school",
         "weary 100", "weary", "weary x", "3", "pets 3", "pe 3", "long 3", "pet -3", "pet 1 2", "free 1 long 2",
-        "weary 00100", "pet 1 \u00e9", "part 1 later later 2", "pet 1 l", "free free", "pet ; 1", "weary 1 later 1"};
+        "weary 00100", "pet 1 \u00e9", "part 1 later later 2", "pet 1 l", "free free", "pet ; 1", "weary 1 later 1", "petz 1", "peta 1", "pet 1 longz 1",
+        "bet 1", "pit 1", "per 1"};
     int[] places = {0, 2, 3, 4, 4, 4, 4, 4,
         6, 6, 7, 0, 6, 10, 11, 11,
         11, 12, 14, 13, 14,
         6, 0, 6, 3, 5, 4, 5, 7, 6,
         6, 5, 6, 0, 0, 0, 0, 4, 6, 7,
-        6, 6, 13, 6, 5, 4, 8};
+        6, 6, 13, 6, 5, 4, 8, 0, 0, 6,
+        0, 0, 0};
     for (int i = 0; i < texts.length; i++) {
       told(x, texts[i], -1 - places[i]);
     }
@@ -787,6 +962,9 @@ public final class OthersSharePromises {
     is("29 none behind the end", x.copy(0, 6, 1, 0, 0), BEYOND);
     is("29 none at the end", x.copy(0, 5, 1, 3, 0), 0);
     sheetIs(x, 1, 0, 0, 0);
+    x.sheet(3, 8, 5);
+    is("29 all", x.copy(0, 0, 3, 0, 5), 5);
+    sheetIs(x, 3, 1, 2, 3, 4, 5);
     is("29 two", x.copy(0, 3, 1, 1, 2), 2);
     sheetIs(x, 1, 0, 4, 5);
     is("29 onto itself, upwards", x.copy(0, 0, 0, 1, 4), 4);
@@ -983,6 +1161,7 @@ public final class OthersSharePromises {
   }
 
   public static void main(String[] args) {
+    anyNumbers();
     promise1New();
     promise2Weary();
     promise3Free();
@@ -1002,10 +1181,15 @@ public final class OthersSharePromises {
     promise15All();
     promise16Played();
     promise17Later();
+    promise17Horizon();
     promise18Kind();
+    promise18Horizon();
     promise19Bears();
+    promise19Zero();
     promise20Holiday();
+    promise20Horizon();
     promise21Last();
+    promise21Horizon();
     promise22Longest();
     promise23Due();
     promise24Feed();
