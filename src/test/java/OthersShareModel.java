@@ -818,8 +818,13 @@ public final class OthersShareModel {
 
   private int wrong = 0;
   private int calls = 0;
+  private int end = 0;
 
+  /** False: the answer was wrong, or the object has been used for 512 calls, behind which all answers are free. */
   private boolean same(int run, OthersShare x, Model model, String name, long[] a) {
+    if (calls == end) {
+      return false;
+    }
     calls++;
     long due = model.call(name, a);
     long got = ask(x, name, a);
@@ -844,13 +849,13 @@ public final class OthersShareModel {
     Random random = new Random(run);
     OthersShare x = new OthersShare();
     Model model = new Model();
-    int end = calls + 512;
+    end = calls + 512;
     if (run % 20 == 0) {
       for (int i = 0; i < 99; i++) {
         same(run, x, model, "days", row(100));
       }
     }
-    while (calls < end - 60) {
+    while (calls < end) {
       int day = model.house.day;
       String name = CALLS[random.nextInt(CALLS.length)];
       boolean goesOn = name.equals("feed") && random.nextInt(3) != 0
