@@ -350,6 +350,28 @@ public final class OthersShareEdges {
     asks("late on the last of 200 DAYS", () -> chain(20), x -> x.later(1), 0);
     is("the part is DONE in", chain(21).done(1), 201);
     refuses("late on the DAY behind them", () -> chain(21), x -> x.later(1), Edge.NONE);
+    is("a long sailor is DONE in", longSailor(0).done(0), 180);
+    refuses("late on the last of 200 DAYS, PUT OFF", () -> longSailor(0), x -> x.later(20), Edge.NONE);
+    asks("late on the DAY behind them, PUT OFF", () -> longSailor(0), x -> x.later(21), 0);
+    asks("late on the last of 200 DAYS as it is", () -> longSailor(20), x -> x.later(21), 0);
+    refuses("late on the DAY behind them as it is", () -> longSailor(21), x -> x.later(22), Edge.NONE);
+  }
+
+  private static OthersShare longSailor(int off) {
+    OthersShare x = schoolSailor(0);
+    x.set(0, 1, 99);
+    x.set(0, 4, off);
+    return x;
+  }
+
+  /** A part, and ghosts of which all but the last are DONE. */
+  private static OthersShare lastGhostAhead() {
+    OthersShare x = aPartOf(4, 0);
+    for (int ghost = 1; ghost < 8; ghost++) {
+      x.part(Edge.GHOST, 1);
+      x.set(ghost, 2, ghost < 7 ? 1 : 0);
+    }
+    return x;
   }
 
   private static void laterLess() {
@@ -366,6 +388,8 @@ public final class OthersShareEdges {
     y.set(1, 1, 4);
     y.set(0, 2, 1);
     is("the other one is DONE", y.later(3), 2);
+    asks("the last of eight", OthersShareEdges::lastGhostAhead, z -> z.later(1), 7);
+    refuses("none of eight", OthersShareEdges::eightGhosts, z -> z.later(60), Edge.NONE);
   }
 
   private static void kind() {
@@ -429,6 +453,8 @@ public final class OthersShareEdges {
     refuses("ON 200, a day more", () -> aPartOf(1, 249), x -> x.bears(200), Edge.NONE);
     asks("0 alone", OthersShareEdges::bearsNothing, x -> x.bears(6), 0);
     refuses("not even 0", OthersShareEdges::bearsNothing, x -> x.bears(5), Edge.NONE);
+    asks("5 with 23 points in six DAYS", () -> aPartOf(23, 0), x -> x.bears(6), 5);
+    refuses("less than 0 would be wanted for 24", () -> aPartOf(24, 0), x -> x.bears(6), Edge.NONE);
     outside("bears", 1, 200, OthersShare::bears);
   }
 
@@ -484,6 +510,8 @@ public final class OthersShareEdges {
     refuses("of no parts", OthersShare::new, x -> x.holiday(), Edge.NONE);
     refuses("with no school", () -> Edge.vacation(Edge.with(Edge.SAILOR, 0)), x -> x.holiday(), Edge.NONE);
     refuses("no sooner", () -> aPart(0), x -> x.holiday(), Edge.NONE);
+    refuses("in 400 as it is, and no sooner", () -> aPart(446), x -> x.holiday(), Edge.NONE);
+    refuses("in 401 as it is, and no sooner", () -> aPart(447), x -> x.holiday(), Edge.NONE);
     refuses("never", () -> aPart(9999), x -> x.holiday(), Edge.NONE);
     refuses("all DONE", () -> points(9999), x -> x.holiday(), Edge.NONE);
   }

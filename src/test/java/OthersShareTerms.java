@@ -698,6 +698,28 @@ public final class OthersShareTerms {
     }
   }
 
+  private static void anotherWord() {
+    Edge.says("FAULT: .. another WORD");
+    String[] texts = {"part 1", "sailor 1", "pet 1", "ghost 1", "admiral 1", "youngest 1", "free 1", "school 1", "weary 1"};
+    for (String text : texts) {
+      otherLetters("", text);
+    }
+    otherLetters("pet 1 ", "long 1");
+    otherLetters("pet 1 ", "later 1");
+    otherLetters("pet 1 long 2 ", "later 1");
+  }
+
+  /** Each letter of the word for another one, and the place of the fault is the word's. */
+  private static void otherLetters(String ahead, String text) {
+    for (int i = 0; text.charAt(i) != ' '; i++) {
+      String other = text.substring(0, i) + (text.charAt(i) == 'x' ? 'y' : 'x') + text.substring(i + 1);
+      OthersShare x = new OthersShare();
+      Edge.type(x, ahead + other);
+      is("nursery() of \"" + ahead + other + "\"", x.nursery(), -1 - ahead.length());
+      is("count(0)", x.count(0), 0);
+    }
+  }
+
   private static void textOfItems() {
     Edge.says("TEXT: ITEM { ; ITEM }.");
     comes(new OthersShare(), "weary 4", 1, y -> y.weary(4));
@@ -939,6 +961,7 @@ public final class OthersShareTerms {
     wordRange();
     numberRange();
     signAndBlanks();
+    anotherWord();
     textOfItems();
     itemOfPart();
     itemLong();
