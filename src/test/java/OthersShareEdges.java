@@ -139,6 +139,34 @@ public final class OthersShareEdges {
     outside("of, what", 0, 9, (x, v) -> x.of(0, v));
   }
 
+  private static void ofTheSilent() {
+    Edge.says("6: .. 6 GIVES on this DAY, 7 CALLS, 8 100 and what it TIRES (of a part DONE or PUT OFF, too)");
+    int[] gives = {3, 3, 4, 1, 2, 4};
+    int[] calls = {49, 59, 44, 60, 59, 44};
+    int[] tires = {106, 110, 97, 100, 110, 99};
+    for (int kind = 0; kind < 6; kind++) {
+      int asked = kind;
+      Supplier<OthersShare> off = () -> silent(asked, 4, 99);
+      Supplier<OthersShare> done = () -> silent(asked, 2, 9999);
+      asks("GIVES of kind " + kind + ", PUT OFF", off, x -> x.of(0, 6), gives[kind]);
+      asks("CALLS of kind " + kind + ", PUT OFF", off, x -> x.of(0, 7), calls[kind]);
+      asks("TIRES of kind " + kind + ", PUT OFF", off, x -> x.of(0, 8), tires[kind]);
+      asks("GIVES of kind " + kind + ", DONE", done, x -> x.of(0, 6), gives[kind]);
+      asks("CALLS of kind " + kind + ", DONE", done, x -> x.of(0, 7), calls[kind]);
+      asks("TIRES of kind " + kind + ", DONE", done, x -> x.of(0, 8), tires[kind]);
+      asks("who is played, PUT OFF", off, x -> x.now(4), -1);
+      asks("who is played, DONE", done, x -> x.now(4), -1);
+    }
+  }
+
+  /** One part, due by the next day, that isn't played; weary 30. */
+  private static OthersShare silent(int kind, int what, int v) {
+    OthersShare x = Edge.with(kind, 1);
+    x.weary(30);
+    x.set(0, what, v);
+    return x;
+  }
+
   private static void set() {
     Edge.says("7: LONG (what 1), PLAYED (2; 0 to 9999), DUE (3), PUT OFF (4) of a part becomes v: what it was. BEYOND.");
     int[] low = {0, 1, 0, 0, 0};
@@ -1145,6 +1173,7 @@ public final class OthersShareEdges {
     nowPlayed();
     part();
     of();
+    ofTheSilent();
     set();
     turn();
     as();
